@@ -1,0 +1,79 @@
+/** What the tests share: texts as longs, and the comparing of answers and exceptions with what is due. */
+final class Checks {
+    interface Call {
+        long answer();
+    }
+
+    interface Deed {
+        void run();
+    }
+
+    static final Class<? extends RuntimeException> ARGUMENT = IllegalArgumentException.class;
+    static final Class<? extends RuntimeException> INDEX = IndexOutOfBoundsException.class;
+    static final Class<? extends RuntimeException> STATE = IllegalStateException.class;
+    static final Class<? extends RuntimeException> ELEMENT = java.util.NoSuchElementException.class;
+
+    private int checked = 0;
+    private int wrong = 0;
+
+    static long text(String characters) {
+        long text = 0;
+        for (int i = characters.length() - 1; i >= 0; i--) {
+            text = text << 8 | characters.charAt(i) & 255;
+        }
+        return text;
+    }
+
+    void due(String what, long want, Call call) {
+        String got;
+        try {
+            got = String.valueOf(call.answer());
+        } catch (RuntimeException e) {
+            got = "throws." + e.getClass().getSimpleName();
+        }
+        compare(what, String.valueOf(want), got);
+    }
+
+    void dueText(String what, String want, Call call) {
+        due(what, text(want), call);
+    }
+
+    void dueThrow(String what, Class<? extends RuntimeException> want, Call call) {
+        String got;
+        try {
+            got = String.valueOf(call.answer());
+        } catch (RuntimeException e) {
+            got = "throws." + e.getClass().getSimpleName();
+        }
+        compare(what, "throws." + want.getSimpleName(), got);
+    }
+
+    void dueDone(String what, Deed deed) {
+        due(what, 0, () -> {
+            deed.run();
+            return 0;
+        });
+    }
+
+    void dueNotDone(String what, Class<? extends RuntimeException> want, Deed deed) {
+        dueThrow(what, want, () -> {
+            deed.run();
+            return 0;
+        });
+    }
+
+    void compare(String what, String want, String got) {
+        checked++;
+        if (!want.equals(got)) {
+            wrong++;
+            System.out.println(what + " answered " + got + ", due is " + want);
+        }
+    }
+
+    void end() {
+        System.out.println(checked + " answers, " + wrong + " of them wrong");
+        if (wrong != 0) {
+            System.exit(1);
+        }
+    }
+}
