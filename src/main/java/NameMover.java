@@ -521,20 +521,20 @@ public final class NameMover {
     /** The problems of the new names. Each kind answers its least number, or 0. */
     private static final class Problems {
         static int least(Store store) {
-            int told = libraryClass(store);
-            if (told == 0) {
-                told = libraryMember(store);
+            int found = libraryClass(store);
+            if (found == 0) {
+                found = libraryMember(store);
             }
-            if (told == 0) {
-                told = sameClassName(store);
+            if (found == 0) {
+                found = sameClassName(store);
             }
-            if (told == 0) {
-                told = otherPackages(store);
+            if (found == 0) {
+                found = otherPackages(store);
             }
-            if (told == 0) {
-                told = sameMemberName(store);
+            if (found == 0) {
+                found = sameMemberName(store);
             }
-            return told;
+            return found;
         }
 
         private static int told(int kind, int x, int y) {
@@ -637,7 +637,7 @@ public final class NameMover {
 
         /** Byte i, 0 where there is none. */
         int get(int i) {
-            return has(i) ? bytes[i] : 0;
+            return i >= 0 && i < length ? bytes[i] : 0;
         }
 
         void set(int i, int b) {

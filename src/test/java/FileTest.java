@@ -237,6 +237,7 @@ public final class FileTest {
         NameMover x = withBuffer(told);
         int[] want = file(told);
         CHECKS.dueThrow(what, Checks.ARGUMENT, () -> x.load());
+        CHECKS.dueThrow(what + ", a second time", Checks.ARGUMENT, () -> x.load());
         CHECKS.due(what + ", classes", 3, () -> x.classes());
         CHECKS.compare(what + ", the buffer stays", words(want), buffer(x, want.length));
     }
@@ -389,11 +390,15 @@ public final class FileTest {
         CHECKS.dueThrow("load", Checks.ARGUMENT, () -> x.load());
         CHECKS.dueThrow("there is no class of it", Checks.INDEX, () -> x.className(3, false));
         CHECKS.dueThrow("nor a member", Checks.INDEX, () -> x.memberName(3, 0, false));
+        x.moveClass(0, t("C"));
+        CHECKS.due("no problem with its name", 0, () -> x.problem());
+        CHECKS.due("one name moves", 1, () -> x.cancel());
         CHECKS.due("its name is free", 3, () -> x.declare(t("C"), 0, false));
         CHECKS.dueThrow("the class has no member of it", Checks.INDEX, () -> x.memberName(3, 0, false));
         dueFile(x, "the class's file", 3, "202 2 'C' 'A' 1 2 0 0");
-        CHECKS.due("its own field", 0, () -> x.member(3, t("f"), t("J"), false));
-        CHECKS.due("its superclass's", 0, () -> x.find(3, t("f"), t("I")));
+        CHECKS.due("its superclass's field", 0, () -> x.find(3, t("f"), t("I")));
+        CHECKS.due("a field as in the file", 0, () -> x.member(3, t("f"), t("I"), false));
+        CHECKS.due("its own field", 24, () -> x.find(3, t("f"), t("I")));
     }
 
     private static void theMostMembers() {

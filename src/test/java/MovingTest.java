@@ -63,7 +63,7 @@ public final class MovingTest {
         CHECKS.due("to itself", 2, () -> x.movePackage(t("a"), t("a")));
         CHECKS.dueText("class 4 has its name again", "a/E2", () -> x.className(4, true));
         CHECKS.due("from none to none", 1, () -> x.movePackage(0L, 0L));
-        CHECKS.due("two new names are left, of class 1 and none else", 1, () -> x.cancel());
+        CHECKS.due("the new name of class 1 is left, and none else", 1, () -> x.cancel());
         CHECKS.due("a package that nothing is in", 0, () -> x.movePackage(t("q"), t("abcdefgh")));
     }
 
@@ -89,6 +89,9 @@ public final class MovingTest {
         CHECKS.due("just not too long", 2, () -> x.movePackage(t("a"), t("ab/cd")));
         CHECKS.dueText("eight characters", "ab/cd/Bb", () -> x.className(1, true));
         CHECKS.dueText("seven characters", "ab/cd/A", () -> x.className(0, true));
+        x.cancel();
+        x.moveClass(1, t("Zzzzzzzz"));
+        CHECKS.due("its new name does not count", 2, () -> x.movePackage(t("a"), t("abcde")));
         NameMover y = new NameMover();
         y.declare(t("abcdefgh"), -1, false);
         CHECKS.dueThrow("a class without a package", Checks.ARGUMENT, () -> y.movePackage(0L, t("a")));
