@@ -25,13 +25,7 @@ final class Checks {
     }
 
     void due(String what, long want, Call call) {
-        String got;
-        try {
-            got = String.valueOf(call.answer());
-        } catch (RuntimeException e) {
-            got = "throws." + e.getClass().getSimpleName();
-        }
-        compare(what, String.valueOf(want), got);
+        compare(what, String.valueOf(want), told(call));
     }
 
     void dueText(String what, String want, Call call) {
@@ -39,13 +33,16 @@ final class Checks {
     }
 
     void dueThrow(String what, Class<? extends RuntimeException> want, Call call) {
-        String got;
+        compare(what, "throws." + want.getSimpleName(), told(call));
+    }
+
+    /** The class of an exception must be the very one that is due, not one under it. */
+    private static String told(Call call) {
         try {
-            got = String.valueOf(call.answer());
+            return String.valueOf(call.answer());
         } catch (RuntimeException e) {
-            got = "throws." + e.getClass().getSimpleName();
+            return "throws." + e.getClass().getSimpleName();
         }
-        compare(what, "throws." + want.getSimpleName(), got);
     }
 
     void dueDone(String what, Deed deed) {

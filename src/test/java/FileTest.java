@@ -30,12 +30,16 @@ public final class FileTest {
         CHECKS.end();
     }
 
+    private static String words(int[] bytes) {
+        return java.util.Arrays.toString(bytes);
+    }
+
     private static String buffer(NameMover x, int length) {
-        StringBuilder all = new StringBuilder();
+        int[] bytes = new int[length];
         for (int i = 0; i < length; i++) {
-            all.append(i == 0 ? "" : " ").append(x.byteAt(i));
+            bytes[i] = x.byteAt(i);
         }
-        return all.toString();
+        return words(bytes);
     }
 
     /** A file told in words: numbers are bytes, words in quotes are texts with their length. */
@@ -57,11 +61,7 @@ public final class FileTest {
     private static void dueFile(NameMover x, String what, int c, String told) {
         int[] want = file(told);
         CHECKS.due(what + ", length", want.length, () -> x.write(c));
-        StringBuilder all = new StringBuilder();
-        for (int i = 0; i < want.length; i++) {
-            all.append(i == 0 ? "" : " ").append(want[i]);
-        }
-        CHECKS.compare(what, all.toString(), buffer(x, want.length));
+        CHECKS.compare(what, words(want), buffer(x, want.length));
         CHECKS.dueThrow(what + ", behind it", Checks.INDEX, () -> x.byteAt(want.length));
     }
 
@@ -223,14 +223,6 @@ public final class FileTest {
         dueFile(x, what + ", written again", 3, told);
         CHECKS.due(what + ", nothing moves", 0, () -> x.cancel());
         CHECKS.dueThrow(what + ", a second time", Checks.ARGUMENT, () -> x.load());
-    }
-
-    private static String words(int[] bytes) {
-        StringBuilder all = new StringBuilder();
-        for (int i = 0; i < bytes.length; i++) {
-            all.append(i == 0 ? "" : " ").append(bytes[i]);
-        }
-        return all.toString();
     }
 
     private static void dueRefused(String what, String told) {
@@ -412,7 +404,7 @@ public final class FileTest {
         x.poke(3, 'C');
         CHECKS.due("six members are loaded", 1, () -> x.load());
         CHECKS.dueThrow("no seventh", Checks.STATE, () -> x.member(1, t("g"), t("I"), false));
-        // The pool gives up a text of 1 character, the class takes up one of 1 more: room for 3 bytes.
+        // One text less (2 bytes) and a class's name of one character less make room for a member's 3 bytes.
         int[] seven = file("202 7 'C' 'a' 'I' 'b' 'c' 'd' 'e' 1 0 0 7 2 3 0 4 3 0 5 3 0 6 3 0 7 3 0 1 3 0 2 3 0");
         NameMover y = new NameMover();
         y.declare(t("Qq"), -1, false);
