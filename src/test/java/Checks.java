@@ -15,6 +15,7 @@ final class Checks {
 
     private int checked = 0;
     private int wrong = 0;
+    private String sentence = "";
 
     static long text(String characters) {
         long text = 0;
@@ -22,6 +23,11 @@ final class Checks {
             text = text << 8 | characters.charAt(i) & 255;
         }
         return text;
+    }
+
+    /** The document's sentence that the next answers are due by: a wrong one is told with it. */
+    void sentence(String words) {
+        sentence = words + ": ";
     }
 
     void due(String what, long want, Call call) {
@@ -36,8 +42,14 @@ final class Checks {
         compare(what, "throws." + want.getSimpleName(), told(call));
     }
 
+    /** Where only this matters: whether the arguments are taken, or refused by an IllegalArgumentException. */
+    void dueTaken(String what, boolean want, Call call) {
+        String got = told(call);
+        compare(what, want ? "taken" : "throws." + ARGUMENT.getSimpleName(), got.startsWith("throws.") ? got : "taken");
+    }
+
     /** The class of an exception must be the very one that is due, not one under it. */
-    private static String told(Call call) {
+    static String told(Call call) {
         try {
             return String.valueOf(call.answer());
         } catch (RuntimeException e) {
@@ -63,7 +75,7 @@ final class Checks {
         checked++;
         if (!want.equals(got)) {
             wrong++;
-            System.out.println(what + " answered " + got + ", due is " + want);
+            System.out.println(sentence + what + " answered " + got + ", due is " + want);
         }
     }
 

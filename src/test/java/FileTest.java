@@ -1,6 +1,7 @@
 /** Promises 14, 15, 16 and 17: write, byteAt, poke, load. */
 public final class FileTest {
     private static final Checks CHECKS = new Checks();
+    private static final TestFiles FILES = new TestFiles(CHECKS);
 
     private static long t(String characters) {
         return Checks.text(characters);
@@ -10,6 +11,9 @@ public final class FileTest {
         theSmallestFile();
         aWholeFile();
         textsAreInThePoolOnce();
+        theOrderOfThePool();
+        textsThatOnlyStartAlike();
+        classesThatLookLikeTypes();
         namesNotNewNames();
         theGreatestFile();
         wrongClassesToWrite();
@@ -25,94 +29,25 @@ public final class FileTest {
         descriptorsThatAreNone();
         membersThatAreWrong();
         aRefusedLoadLeavesNothing();
+        aRefusedLoadLeavesNoFamily();
         theMostMembers();
         theEighthClass();
         CHECKS.end();
     }
 
-    private static String words(int[] bytes) {
-        return java.util.Arrays.toString(bytes);
-    }
-
-    private static String buffer(NameMover x, int length) {
-        int[] bytes = new int[length];
-        for (int i = 0; i < length; i++) {
-            bytes[i] = x.byteAt(i);
-        }
-        return words(bytes);
-    }
-
-    /** A file told in words: numbers are bytes, words in quotes are texts with their length. */
-    private static int[] file(String told) {
-        java.util.ArrayList<Integer> bytes = new java.util.ArrayList<>();
-        for (String word : told.split(" ")) {
-            if (word.startsWith("'")) {
-                bytes.add(word.length() - 2);
-                for (char ch : word.substring(1, word.length() - 1).toCharArray()) {
-                    bytes.add((int) ch);
-                }
-            } else {
-                bytes.add(Integer.parseInt(word));
-            }
-        }
-        return bytes.stream().mapToInt(b -> b).toArray();
-    }
-
-    private static void dueFile(NameMover x, String what, int c, String told) {
-        int[] want = file(told);
-        CHECKS.due(what + ", length", want.length, () -> x.write(c));
-        CHECKS.compare(what, words(want), buffer(x, want.length));
-        CHECKS.dueThrow(what + ", behind it", Checks.INDEX, () -> x.byteAt(want.length));
-    }
-
-    /**
-     * Class 0 is A with a field f of type I, class 1 is a/B; the buffer is as told. Only a written
-     * buffer has a length, so class 2 is declared just to have a file of the length that is needed.
-     */
-    private static NameMover withBuffer(String told) {
-        int[] want = file(told);
-        NameMover x = new NameMover();
-        x.declare(t("A"), -1, false);
-        x.member(0, t("f"), t("I"), false);
-        x.declare(t("a/B"), 0, true);
-        makeFileOfLength(x, want.length);
-        for (int i = 0; i < want.length; i++) {
-            x.poke(i, want[i]);
-        }
-        return x;
-    }
-
-    /** Class 2 gets names that are just so long that its file has this length, which is 8 or more. */
-    private static void makeFileOfLength(NameMover x, int length) {
-        int members = 0;
-        int least = 8;
-        // A member adds its name, the first one a descriptor, too, and 3 bytes; a name has 7 characters to spare.
-        while (least + 7 * (members + 1) < length) {
-            least += members == 0 ? 7 : 5;
-            members++;
-        }
-        int spare = length - least;
-        int more = Math.min(7, spare);
-        x.declare(t("Q" + "q".repeat(more)), -1, false);
-        for (int k = 0; k < members; k++) {
-            spare -= more;
-            more = Math.min(7, spare);
-            x.member(2, t((char) ('a' + k) + "y".repeat(more)), t("I"), false);
-        }
-        CHECKS.due("a file of the length that is needed", length, () -> x.write(2));
-    }
-
     private static void theSmallestFile() {
+        CHECKS.sentence("that of its superclass's name, 0 if it has none; 1 for a library class, 0 else; the number of members");
         NameMover x = new NameMover();
         x.declare(t("A"), -1, false);
-        dueFile(x, "a class alone", 0, "202 1 'A' 1 0 0 0");
+        FILES.dueFile(x, "a class alone", 0, "202 1 'A' 1 0 0 0");
         x.declare(t("L"), -1, true);
-        dueFile(x, "a library class", 1, "202 1 'L' 1 0 1 0");
+        FILES.dueFile(x, "a library class", 1, "202 1 'L' 1 0 1 0");
         x.declare(t("a/b/C"), 0, false);
-        dueFile(x, "a class with a superclass", 2, "202 2 'a/b/C' 'A' 1 2 0 0");
+        FILES.dueFile(x, "a class with a superclass", 2, "202 2 'a/b/C' 'A' 1 2 0 0");
     }
 
     private static void aWholeFile() {
+        CHECKS.sentence("for each the number of its name, that of its descriptor, and 1 if it is fixed, 0 else");
         NameMover x = new NameMover();
         x.declare(t("A"), -1, false);
         x.declare(t("p/Bee"), 0, true);
@@ -120,11 +55,12 @@ public final class FileTest {
         x.member(1, t("m"), t("(0I[1)Z"), false);
         x.member(1, t("m"), t("()V"), true);
         x.member(1, t("f"), t("J"), false);
-        dueFile(x, "a whole file", 1, "202 8 'p/Bee' 'A' 'f' '[[Lp/Bee;' 'm' '(LA;I[Lp/Bee;)Z' '()V' 'J'"
+        FILES.dueFile(x, "a whole file", 1, "202 8 'p/Bee' 'A' 'f' '[[Lp/Bee;' 'm' '(LA;I[Lp/Bee;)Z' '()V' 'J'"
                 + " 1 2 1 4 3 4 1 5 6 0 5 7 1 3 8 0");
     }
 
     private static void textsAreInThePoolOnce() {
+        CHECKS.sentence("The pool has each text once, in the order in which they are first used by what follows");
         NameMover x = new NameMover();
         x.declare(t("I"), -1, false);
         x.declare(t("J"), 0, false);
@@ -132,10 +68,65 @@ public final class FileTest {
         x.member(1, t("J"), t("I"), false);
         x.member(1, t("J"), t("0"), false);
         x.member(1, t("Jj"), t("0"), false);
-        dueFile(x, "texts that are used again", 1, "202 4 'J' 'I' 'LI;' 'Jj' 1 2 0 4 2 1 0 1 2 0 1 3 0 4 3 0");
+        FILES.dueFile(x, "texts that are used again", 1, "202 4 'J' 'I' 'LI;' 'Jj' 1 2 0 4 2 1 0 1 2 0 1 3 0 4 3 0");
+    }
+
+    private static void theOrderOfThePool() {
+        CHECKS.sentence("in the order in which they are first used by what follows");
+        NameMover x = new NameMover();
+        x.declare(t("J"), -1, false);
+        x.declare(t("C"), 0, false);
+        x.member(1, t("m"), t("I"), false);
+        x.member(1, t("I"), t("J"), false);
+        x.member(1, t("C"), t("Z"), false);
+        x.member(1, t("Z"), t("Z"), false);
+        FILES.dueFile(x, "names and descriptors are one pool", 1,
+                "202 5 'C' 'J' 'm' 'I' 'Z' 1 2 0 4 3 4 0 4 2 0 1 5 0 5 5 0");
+        NameMover y = new NameMover();
+        y.declare(t("J"), -1, false);
+        y.member(0, t("m"), t("J"), false);
+        y.member(0, t("a"), t("I"), false);
+        FILES.dueFile(y, "not in the order of the letters", 0, "202 4 'J' 'm' 'a' 'I' 1 0 0 2 2 1 0 3 4 0");
+    }
+
+    private static void textsThatOnlyStartAlike() {
+        CHECKS.sentence("The pool has each text once");
+        NameMover x = new NameMover();
+        x.declare(t("ab"), -1, false);
+        x.declare(t("a"), 0, false);
+        x.member(1, t("abc"), t("[I"), false);
+        x.member(1, t("A"), t("I"), false);
+        x.member(1, t("b"), t("[[I"), false);
+        FILES.dueFile(x, "each is another text", 1,
+                "202 8 'a' 'ab' 'abc' '[I' 'A' 'I' 'b' '[[I' 1 2 0 3 3 4 0 5 6 0 7 8 0");
+    }
+
+    private static void classesThatLookLikeTypes() {
+        CHECKS.sentence("instead of a digit there is L, that class's name, and a semicolon");
+        String[] names = {"L", "V", "I0", "L/L7", "J", "Z9/Z", "a/L"};
+        NameMover x = new NameMover();
+        for (String name : names) {
+            x.declare(t(name), -1, false);
+        }
+        x.member(6, t("f"), t("(01234)5"), false);
+        x.member(6, t("f"), t("([6I)I"), false);
+        x.member(6, t("f"), t("[[0"), true);
+        String told = "202 5 'a/L' 'f' '(LL;LV;LI0;LL/L7;LJ;)LZ9/Z;' '([La/L;I)I' '[[LL;' 1 0 0 3 2 3 0 2 4 0 2 5 1";
+        FILES.dueFile(x, "their names", 6, told);
+        x.poke(3, 'b');
+        CHECKS.dueThrow("a name that is not there", Checks.ARGUMENT, () -> {
+            x.poke(40, 'c');
+            return x.load();
+        });
+        x.poke(40, 'b');
+        CHECKS.due("they are read again", 7, () -> x.load());
+        CHECKS.due("the digits of the first", 56, () -> x.find(7, t("f"), t("(01234)5")));
+        CHECKS.due("of the second", 57, () -> x.find(7, t("f"), t("([7I)I")));
+        CHECKS.due("of the third", 58, () -> x.find(7, t("f"), t("[[0")));
     }
 
     private static void namesNotNewNames() {
+        CHECKS.sentence("The buffer becomes the file of class c (with names, not new names)");
         NameMover x = new NameMover();
         x.declare(t("A"), -1, false);
         x.declare(t("B"), 0, false);
@@ -143,13 +134,14 @@ public final class FileTest {
         x.moveClass(0, t("Cc"));
         x.moveClass(1, t("Dd"));
         x.moveMember(1, 0, t("gg"));
-        dueFile(x, "names while it moves", 1, "202 4 'B' 'A' 'f' 'LA;' 1 2 0 1 3 4 0");
+        FILES.dueFile(x, "names while it moves", 1, "202 4 'B' 'A' 'f' 'LA;' 1 2 0 1 3 4 0");
         x.apply();
         CHECKS.due("the buffer stays", 'B', () -> x.byteAt(3));
-        dueFile(x, "names that have moved", 1, "202 4 'Dd' 'Cc' 'gg' 'LCc;' 1 2 0 1 3 4 0");
+        FILES.dueFile(x, "names that have moved", 1, "202 4 'Dd' 'Cc' 'gg' 'LCc;' 1 2 0 1 3 4 0");
     }
 
     private static void theGreatestFile() {
+        CHECKS.sentence("how many bytes it has");
         NameMover x = new NameMover();
         x.declare(t("Aaaaaaaa"), -1, false);
         x.declare(t("a/b/c/dd"), 0, false);
@@ -173,6 +165,7 @@ public final class FileTest {
     }
 
     private static void wrongClassesToWrite() {
+        CHECKS.sentence("IndexOutOfBoundsException when there is no such class");
         NameMover x = new NameMover();
         CHECKS.dueThrow("write of no class", Checks.INDEX, () -> x.write(0));
         x.declare(t("A"), -1, false);
@@ -184,6 +177,7 @@ public final class FileTest {
     }
 
     private static void bytes() {
+        CHECKS.sentence("Byte i (from 0) of the buffer. IndexOutOfBoundsException when there is none");
         NameMover x = new NameMover();
         x.declare(t("Abcdefgh"), -1, false);
         x.declare(t("B"), -1, false);
@@ -198,6 +192,7 @@ public final class FileTest {
     }
 
     private static void poking() {
+        CHECKS.sentence("Byte i of the buffer becomes b");
         NameMover x = new NameMover();
         CHECKS.dueNotDone("poke of an empty buffer", Checks.INDEX, () -> x.poke(0, 256));
         x.declare(t("A"), -1, false);
@@ -215,33 +210,32 @@ public final class FileTest {
     }
 
     private static void dueLoaded(String what, String told) {
-        NameMover x = withBuffer(told);
-        int[] want = file(told);
+        NameMover x = FILES.withBuffer(told);
         CHECKS.due(what, 3, () -> x.load());
         CHECKS.due(what + ", classes", 4, () -> x.classes());
-        CHECKS.compare(what + ", the buffer stays", words(want), buffer(x, want.length));
-        dueFile(x, what + ", written again", 3, told);
+        FILES.dueBuffer(x, what + ", the buffer stays", told);
+        FILES.dueFile(x, what + ", written again", 3, told);
         CHECKS.due(what + ", nothing moves", 0, () -> x.cancel());
         CHECKS.dueThrow(what + ", a second time", Checks.ARGUMENT, () -> x.load());
     }
 
     private static void dueRefused(String what, String told) {
-        NameMover x = withBuffer(told);
-        int[] want = file(told);
+        NameMover x = FILES.withBuffer(told);
         CHECKS.dueThrow(what, Checks.ARGUMENT, () -> x.load());
         CHECKS.dueThrow(what + ", a second time", Checks.ARGUMENT, () -> x.load());
         CHECKS.due(what + ", classes", 3, () -> x.classes());
-        CHECKS.compare(what + ", the buffer stays", words(want), buffer(x, want.length));
+        FILES.dueBuffer(x, what + ", the buffer stays", told);
     }
 
     private static void loading() {
+        CHECKS.sentence("A new class is made so that the buffer is its file, byte by byte");
         dueLoaded("a class alone", "202 1 'C' 1 0 0 0");
         dueLoaded("a library class with a superclass", "202 2 'a/C' 'A' 1 2 1 0");
         dueLoaded("a superclass in a package", "202 2 'C' 'a/B' 1 2 0 0");
         dueLoaded("fields", "202 5 'C' 'f' 'I' 'g' 'La/B;' 1 0 0 3 2 3 0 4 5 1 2 5 0");
         dueLoaded("methods", "202 5 'C' 'm' '(LA;[La/B;)V' 'n' '(IJZ)[I' 1 0 1 2 2 3 1 4 5 0");
         dueLoaded("a text of two uses", "202 2 'I' 'f' 1 0 0 2 1 1 0 2 1 0");
-        NameMover x = withBuffer("202 5 'C' 'A' 'm' '(LA;[La/B;)V' 'f' 1 2 1 2 3 4 1 5 4 0");
+        NameMover x = FILES.withBuffer("202 5 'C' 'A' 'm' '(LA;[La/B;)V' 'f' 1 2 1 2 3 4 1 5 4 0");
         x.load();
         CHECKS.dueText("its name", "C", () -> x.className(3, false));
         CHECKS.dueText("its new name", "C", () -> x.className(3, true));
@@ -254,16 +248,18 @@ public final class FileTest {
     }
 
     private static void loadingAClassThatNamesItself() {
+        CHECKS.sentence("other than the new one itself, in its descriptors");
         dueLoaded("itself in a field", "202 3 'C' 'f' 'LC;' 1 0 0 1 2 3 0");
         dueLoaded("itself in a method", "202 3 'c/C' 'f' '(Lc/C;)[Lc/C;' 1 0 0 1 2 3 0");
         dueRefused("itself as superclass", "202 1 'C' 1 1 0 0");
-        NameMover x = withBuffer("202 3 'C' 'f' 'LC;' 1 0 0 1 2 3 0");
+        NameMover x = FILES.withBuffer("202 3 'C' 'f' 'LC;' 1 0 0 1 2 3 0");
         x.load();
         CHECKS.due("its own number", 24, () -> x.find(3, t("f"), t("3")));
     }
 
     private static void loadingAfterNamesWereMoved() {
-        NameMover x = withBuffer("202 3 'C' 'f' 'LA;' 1 0 0 1 2 3 0");
+        CHECKS.sentence("a class that is named .. is not there");
+        NameMover x = FILES.withBuffer("202 3 'C' 'f' 'LA;' 1 0 0 1 2 3 0");
         x.moveClass(0, t("E"));
         x.apply();
         CHECKS.dueThrow("the old name of class 0", Checks.ARGUMENT, () -> x.load());
@@ -271,11 +267,12 @@ public final class FileTest {
         CHECKS.due("its name now", 3, () -> x.load());
         x.moveClass(0, t("Ee"));
         x.apply();
-        dueFile(x, "what names it goes along", 3, "202 3 'C' 'f' 'LEe;' 1 0 0 1 2 3 0");
+        FILES.dueFile(x, "what names it goes along", 3, "202 3 'C' 'f' 'LEe;' 1 0 0 1 2 3 0");
     }
 
     private static void statesThatRefuseALoad() {
-        NameMover x = withBuffer("202 1 'C' 1 0 0 0");
+        CHECKS.sentence("IllegalStateException when it is moving or there are 8 classes");
+        NameMover x = FILES.withBuffer("202 1 'C' 1 0 0 0");
         x.moveMember(0, 0, t("g"));
         CHECKS.dueThrow("load while it moves", Checks.STATE, () -> x.load());
         x.poke(0, 0);
@@ -291,12 +288,15 @@ public final class FileTest {
     }
 
     private static void bytesThatAreNoFile() {
+        CHECKS.sentence("the bytes are no file");
         dueRefused("another mark", "201 1 'C' 1 0 0 0");
         dueRefused("a byte too many", "202 1 'C' 1 0 0 0 0");
         dueRefused("a byte less than due", "202 1 'CC' 1 0 0");
         dueRefused("no pool", "202 0 1 0 0 0 0 0");
         dueRefused("a pool beyond the end", "202 9 'C' 1 0 0 0");
         dueRefused("255 texts", "202 255 'C' 1 0 0 0");
+        dueRefused("255 texts, the first of them long", "202 255 200 67 1 0 0 0");
+        dueRefused("a text more than any file has", "202 15 15 67 1 0 0 0");
         dueRefused("a text beyond the end", "202 1 255 67 1 0 0 0");
         dueRefused("a text to the end", "202 1 5 67 1 0 0 0");
         dueRefused("a member too many", "202 1 'C' 1 0 0 1");
@@ -309,6 +309,7 @@ public final class FileTest {
     }
 
     private static void poolsThatAreNotAsWritten() {
+        CHECKS.sentence("the bytes are no file, as the pool is another");
         dueRefused("a text that is not used", "202 2 'C' 'f' 1 0 0 0");
         dueRefused("a text twice", "202 3 'I' 'f' 'I' 1 0 0 1 2 3 0");
         dueRefused("another order", "202 3 'C' 'I' 'f' 1 0 0 1 3 2 0");
@@ -326,6 +327,7 @@ public final class FileTest {
     }
 
     private static void namesThatAreNone() {
+        CHECKS.sentence("a name or descriptor is none: names");
         dueRefused("a class's name of a digit", "202 1 '1' 1 0 0 0");
         dueRefused("a class's name with a slash at its end", "202 1 'C/' 1 0 0 0");
         dueRefused("a zero in a class's name", "202 1 2 67 0 1 0 0 0");
@@ -354,6 +356,7 @@ public final class FileTest {
     }
 
     private static void descriptorsThatAreNone() {
+        CHECKS.sentence("a name or descriptor is none: descriptors");
         String[] refused = {"V", "0", "1", "[0", "(0)V", "LD;", "LA", "L", "L;", "LA;;", "A;", "A", "[", "[V", "()", "(I",
             "(LA)V", "(LA;V", "IL", "LL", "LLA;", "La/B;I", "LA;LA;", "(V)V", "()VV", "(IIIIII)V", "(IIIIII)I",
             "[[[[[[[[I", "LA2345678;", "L[A;", "La;", "LB;", "[[[[[[[[LA;", "(LA;IIIII)V", "()V;", ";", "f"};
@@ -371,6 +374,7 @@ public final class FileTest {
     }
 
     private static void membersThatAreWrong() {
+        CHECKS.sentence("two members are the same");
         dueRefused("two members that are the same", "202 3 'C' 'f' 'I' 1 0 0 2 2 3 0 2 3 0");
         dueRefused("two that are not fixed alike", "202 3 'C' 'f' 'I' 1 0 0 2 2 3 0 2 3 1");
         dueLoaded("two with the same name", "202 4 'C' 'f' 'I' 'J' 1 0 0 2 2 3 0 2 4 0");
@@ -378,7 +382,8 @@ public final class FileTest {
     }
 
     private static void aRefusedLoadLeavesNothing() {
-        NameMover x = withBuffer("202 3 'C' 'f' 'I' 1 0 0 2 2 3 0 2 3 0");
+        CHECKS.sentence("A call that throws changes nothing: load");
+        NameMover x = FILES.withBuffer("202 3 'C' 'f' 'I' 1 0 0 2 2 3 0 2 3 0");
         CHECKS.dueThrow("load", Checks.ARGUMENT, () -> x.load());
         CHECKS.dueThrow("there is no class of it", Checks.INDEX, () -> x.className(3, false));
         CHECKS.dueThrow("nor a member", Checks.INDEX, () -> x.memberName(3, 0, false));
@@ -387,38 +392,59 @@ public final class FileTest {
         CHECKS.due("one name moves", 1, () -> x.cancel());
         CHECKS.due("its name is free", 3, () -> x.declare(t("C"), 0, false));
         CHECKS.dueThrow("the class has no member of it", Checks.INDEX, () -> x.memberName(3, 0, false));
-        dueFile(x, "the class's file", 3, "202 2 'C' 'A' 1 2 0 0");
+        FILES.dueFile(x, "the class's file", 3, "202 2 'C' 'A' 1 2 0 0");
         CHECKS.due("its superclass's field", 0, () -> x.find(3, t("f"), t("I")));
         CHECKS.due("a field as in the file", 0, () -> x.member(3, t("f"), t("I"), false));
         CHECKS.due("its own field", 24, () -> x.find(3, t("f"), t("I")));
     }
 
+    private static void aRefusedLoadLeavesNoFamily() {
+        CHECKS.sentence("A call that throws changes nothing: load, of which no member is left");
+        NameMover x = new NameMover();
+        x.declare(t("A"), -1, false);
+        x.member(0, t("m"), t("()V"), false);
+        x.member(0, t("n"), t("()V"), false);
+        x.write(0);
+        x.poke(3, 'B');
+        x.poke(1, 3);
+        CHECKS.dueThrow("load of bytes that are no file", Checks.ARGUMENT, () -> x.load());
+        x.poke(1, 4);
+        x.poke(20, 2);
+        CHECKS.dueThrow("load of a file with a wrong byte behind", Checks.ARGUMENT, () -> x.load());
+        CHECKS.due("a class in its place", 1, () -> x.declare(t("C"), 0, false));
+        CHECKS.due("a family of one", 1, () -> x.moveMember(0, 0, t("n")));
+        CHECKS.due("a problem in the one class", 50001, () -> x.problem());
+        CHECKS.due("a family of one", 1, () -> x.moveMember(0, 1, t("m")));
+        CHECKS.due("no problem with what is not there", 0, () -> x.problem());
+        CHECKS.due("two names", 2, () -> x.apply());
+    }
+
     private static void theMostMembers() {
+        CHECKS.sentence("A class has MEMBERS 0, 1, .. (at most 6)");
         String six = "2 3 0 4 3 0 5 3 0 6 3 0 7 3 0 8 3 0";
         NameMover x = new NameMover();
         x.declare(t("A"), -1, false);
         for (String name : new String[] {"a", "b", "c", "d", "e", "f"}) {
             x.member(0, t(name), t("I"), false);
         }
-        dueFile(x, "six members", 0, "202 8 'A' 'a' 'I' 'b' 'c' 'd' 'e' 'f' 1 0 0 6 " + six);
+        FILES.dueFile(x, "six members", 0, "202 8 'A' 'a' 'I' 'b' 'c' 'd' 'e' 'f' 1 0 0 6 " + six);
         x.poke(3, 'C');
         CHECKS.due("six members are loaded", 1, () -> x.load());
         CHECKS.dueThrow("no seventh", Checks.STATE, () -> x.member(1, t("g"), t("I"), false));
         // One text less (2 bytes) and a class's name of one character less make room for a member's 3 bytes.
-        int[] seven = file("202 7 'C' 'a' 'I' 'b' 'c' 'd' 'e' 1 0 0 7 2 3 0 4 3 0 5 3 0 6 3 0 7 3 0 1 3 0 2 3 0");
+        int[] seven = TestFiles.file("202 7 'C' 'a' 'I' 'b' 'c' 'd' 'e' 1 0 0 7 2 3 0 4 3 0 5 3 0 6 3 0 7 3 0 1 3 0 2 3 0");
         NameMover y = new NameMover();
         y.declare(t("Qq"), -1, false);
         for (String name : new String[] {"a", "b", "c", "d", "e", "f"}) {
             y.member(0, t(name), t("I"), false);
         }
         CHECKS.due("a file as long as one with seven members", seven.length, () -> y.write(0));
-        for (int i = 0; i < seven.length; i++) {
-            y.poke(i, seven[i]);
-        }
+        TestFiles.pokeAll(y, seven);
         CHECKS.dueThrow("seven members are not loaded", Checks.ARGUMENT, () -> y.load());
     }
 
     private static void theEighthClass() {
+        CHECKS.sentence("CLASSES 0, 1, .. (at most 8)");
         NameMover x = new NameMover();
         x.declare(t("A0"), -1, false);
         x.member(0, t("f"), t("0"), false);

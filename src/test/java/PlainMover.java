@@ -332,6 +332,14 @@ final class PlainMover {
         return written.toString();
     }
 
+    /** What no call of the document can do at once: write gives the length, and poke each byte. */
+    void takeBuffer(int[] bytes) {
+        buffer = new ArrayList<>();
+        for (int b : bytes) {
+            buffer.add(b);
+        }
+    }
+
     int bufferLength() {
         return buffer.size();
     }

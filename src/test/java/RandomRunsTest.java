@@ -6,6 +6,8 @@ import java.util.Random;
  */
 public final class RandomRunsTest {
     private static final int RUNS = 3000;
+    /** Behind so many calls the document promises nothing of an object. */
+    private static final int MOST_CALLS = 512;
     private static final String[] CLASS_NAMES = {"A", "B", "C", "I", "LA", "a/A", "a/B", "b/A", "b/C", "a/b/C", "D2",
         "abcdefgh", "ab/cd/Ef", "a", "m", "", "1", "a/", "a//b", "a/b/c/dd"};
     private static final String[] PACKAGES = {"", "a", "b", "a/b", "c", "ab/cd", "abcdef", "abcdefgh", "a/", "1", "LA"};
@@ -16,6 +18,7 @@ public final class RandomRunsTest {
     private final Checks checks = new Checks();
     private final int[] answers = new int[17];
     private final int[] throwing = new int[17];
+    private int callsOfRun = 0;
 
     public static void main(String[] args) {
         RandomRunsTest test = new RandomRunsTest();
@@ -46,6 +49,7 @@ public final class RandomRunsTest {
         NameMover program = new NameMover();
         PlainMover plain = new PlainMover();
         int calls = 20 + random.nextInt(400);
+        callsOfRun = 0;
         // Some runs are for making classes, some for files, some for moving.
         int bent = random.nextInt(4);
         for (int i = 0; i < calls; i++) {
@@ -123,6 +127,10 @@ public final class RandomRunsTest {
     }
 
     private void compare(String said, int kind, Checks.Call program, Checks.Call plain) {
+        if (callsOfRun == MOST_CALLS) {
+            return;
+        }
+        callsOfRun++;
         long want = 0;
         try {
             want = plain.answer();
