@@ -919,7 +919,8 @@ public final class NameMover {
                         return Text.EMPTY;
                     }
                     ch = '0' + c;
-                    i = end;
+                    // Never back, so that the loop is seen to end.
+                    i = Math.max(i, end);
                 }
                 if (size == Text.MOST) {
                     return Text.EMPTY;

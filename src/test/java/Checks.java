@@ -79,6 +79,18 @@ final class Checks {
         }
     }
 
+    /** Runs each test to its end, whatever an earlier one has come upon. */
+    void all(Deed... tests) {
+        for (Deed test : tests) {
+            try {
+                test.run();
+            } catch (RuntimeException e) {
+                compare("a call that is only there to prepare others", "its answer", e.toString());
+            }
+        }
+        end();
+    }
+
     void end() {
         System.out.println(checked + " answers, " + wrong + " of them wrong");
         if (wrong != 0) {

@@ -7,19 +7,19 @@ public final class DeclaringTest {
     }
 
     public static void main(String[] args) {
-        newObject();
-        classNames();
-        superclasses();
-        statesThatRefuseAClass();
-        orderOfExceptionsOfDeclare();
-        identifiers();
-        fieldDescriptors();
-        methodDescriptors();
-        descriptorsOfClassesThatAreThere();
-        statesThatRefuseAMember();
-        orderOfExceptionsOfMember();
-        namesAndNewNames();
-        CHECKS.end();
+        CHECKS.all(
+                DeclaringTest::newObject,
+                DeclaringTest::classNames,
+                DeclaringTest::superclasses,
+                DeclaringTest::statesThatRefuseAClass,
+                DeclaringTest::orderOfExceptionsOfDeclare,
+                DeclaringTest::identifiers,
+                DeclaringTest::fieldDescriptors,
+                DeclaringTest::methodDescriptors,
+                DeclaringTest::descriptorsOfClassesThatAreThere,
+                DeclaringTest::statesThatRefuseAMember,
+                DeclaringTest::orderOfExceptionsOfMember,
+                DeclaringTest::namesAndNewNames);
     }
 
     private static void newObject() {

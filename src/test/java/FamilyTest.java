@@ -14,18 +14,18 @@ public final class FamilyTest {
     }
 
     public static void main(String[] args) {
-        aClassAndItsAncestors();
-        overClassesWithoutIt();
-        theSameThirdOne();
-        aThirdOneThatIsFixed();
-        theSameName();
-        theSameDescriptor();
-        fieldsAreByThemselves();
-        fixedMethodsAreByThemselves();
-        byNamesNotByNewNames();
-        afterApply();
-        allSmallTrees();
-        CHECKS.end();
+        CHECKS.all(
+                FamilyTest::aClassAndItsAncestors,
+                FamilyTest::overClassesWithoutIt,
+                FamilyTest::theSameThirdOne,
+                FamilyTest::aThirdOneThatIsFixed,
+                FamilyTest::theSameName,
+                FamilyTest::theSameDescriptor,
+                FamilyTest::fieldsAreByThemselves,
+                FamilyTest::fixedMethodsAreByThemselves,
+                FamilyTest::byNamesNotByNewNames,
+                FamilyTest::afterApply,
+                FamilyTest::allSmallTrees);
     }
 
     private static NameMover classes(int[] superclasses) {

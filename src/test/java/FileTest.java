@@ -8,31 +8,32 @@ public final class FileTest {
     }
 
     public static void main(String[] args) {
-        theSmallestFile();
-        aWholeFile();
-        textsAreInThePoolOnce();
-        theOrderOfThePool();
-        textsThatOnlyStartAlike();
-        classesThatLookLikeTypes();
-        namesNotNewNames();
-        theGreatestFile();
-        wrongClassesToWrite();
-        bytes();
-        poking();
-        loading();
-        loadingAClassThatNamesItself();
-        loadingAfterNamesWereMoved();
-        statesThatRefuseALoad();
-        bytesThatAreNoFile();
-        poolsThatAreNotAsWritten();
-        namesThatAreNone();
-        descriptorsThatAreNone();
-        membersThatAreWrong();
-        aRefusedLoadLeavesNothing();
-        aRefusedLoadLeavesNoFamily();
-        theMostMembers();
-        theEighthClass();
-        CHECKS.end();
+        CHECKS.all(
+                FileTest::theSmallestFile,
+                FileTest::aWholeFile,
+                FileTest::textsAreInThePoolOnce,
+                FileTest::theOrderOfThePool,
+                FileTest::textsThatOnlyStartAlike,
+                FileTest::classesThatLookLikeTypes,
+                FileTest::namesNotNewNames,
+                FileTest::theGreatestFile,
+                FileTest::wrongClassesToWrite,
+                FileTest::bytes,
+                FileTest::poking,
+                FileTest::loading,
+                FileTest::loadingAClassThatNamesItself,
+                FileTest::loadingAfterNamesWereMoved,
+                FileTest::statesThatRefuseALoad,
+                FileTest::bytesThatAreNoFile,
+                FileTest::poolsThatAreNotAsWritten,
+                FileTest::namesThatAreNone,
+                FileTest::descriptorsThatAreNone,
+                FileTest::membersThatAreWrong,
+                FileTest::aRefusedLoadLeavesNothing,
+                FileTest::aRefusedLoadLeavesNoFamily,
+                FileTest::aRefusedLoadLeavesNoSuperclass,
+                FileTest::theMostMembers,
+                FileTest::theEighthClass);
     }
 
     private static void theSmallestFile() {
@@ -417,6 +418,24 @@ public final class FileTest {
         CHECKS.due("a family of one", 1, () -> x.moveMember(0, 1, t("m")));
         CHECKS.due("no problem with what is not there", 0, () -> x.problem());
         CHECKS.due("two names", 2, () -> x.apply());
+    }
+
+    private static void aRefusedLoadLeavesNoSuperclass() {
+        CHECKS.sentence("A call that throws changes nothing: load, whose class is not there to be named");
+        NameMover x = FILES.withBuffer("202 1 'C' 1 0 0 1");
+        CHECKS.dueThrow("a class without the member that is due", Checks.ARGUMENT, () -> x.load());
+        x.poke(5, 1);
+        x.poke(7, 0);
+        FILES.dueBuffer(x, "now it is under itself", "202 1 'C' 1 1 0 0");
+        CHECKS.dueThrow("it is not there", Checks.ARGUMENT, () -> x.load());
+        CHECKS.due("no class", 3, () -> x.classes());
+        NameMover y = FILES.withBuffer("202 3 'C' 'f' 'LC;' 1 0 0 1 2 3 2");
+        CHECKS.dueThrow("a class with a wrong byte", Checks.ARGUMENT, () -> y.load());
+        y.poke(3, 'D');
+        y.poke(16, 0);
+        FILES.dueBuffer(y, "now another one names it", "202 3 'D' 'f' 'LC;' 1 0 0 1 2 3 0");
+        CHECKS.dueThrow("it is not there", Checks.ARGUMENT, () -> y.load());
+        CHECKS.due("no class", 3, () -> y.classes());
     }
 
     private static void theMostMembers() {

@@ -7,20 +7,20 @@ public final class MovingTest {
     }
 
     public static void main(String[] args) {
-        movingAClass();
-        movingAPackage();
-        packagesThatAreNone();
-        packagesThatAreTooLong();
-        movingAFamily();
-        whatIsNoFamily();
-        familiesOfSiblings();
-        familiesInLibraries();
-        familiesGoByNames();
-        wrongMembers();
-        applying();
-        cancelling();
-        finding();
-        CHECKS.end();
+        CHECKS.all(
+                MovingTest::movingAClass,
+                MovingTest::movingAPackage,
+                MovingTest::packagesThatAreNone,
+                MovingTest::packagesThatAreTooLong,
+                MovingTest::movingAFamily,
+                MovingTest::whatIsNoFamily,
+                MovingTest::familiesOfSiblings,
+                MovingTest::familiesInLibraries,
+                MovingTest::familiesGoByNames,
+                MovingTest::wrongMembers,
+                MovingTest::applying,
+                MovingTest::cancelling,
+                MovingTest::finding);
     }
 
     private static void movingAClass() {

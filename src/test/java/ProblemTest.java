@@ -7,22 +7,22 @@ public final class ProblemTest {
     }
 
     public static void main(String[] args) {
-        libraryClasses();
-        libraryMembers();
-        classesThatBecomeOne();
-        packagesThatPartOrMeet();
-        membersThatBecomeOne();
-        membersThatDoNot();
-        membersOfOneName();
-        theLeastIsTold();
-        theLeastOfOneKind();
-        noneWhereNothingMoves();
-        theLastNumbers();
-        theOneLessIsX();
-        librariesCountAmongPackages();
-        librariesCountAmongMembers();
-        allMovesOfThreePackages();
-        CHECKS.end();
+        CHECKS.all(
+                ProblemTest::libraryClasses,
+                ProblemTest::libraryMembers,
+                ProblemTest::classesThatBecomeOne,
+                ProblemTest::packagesThatPartOrMeet,
+                ProblemTest::membersThatBecomeOne,
+                ProblemTest::membersThatDoNot,
+                ProblemTest::membersOfOneName,
+                ProblemTest::theLeastIsTold,
+                ProblemTest::theLeastOfOneKind,
+                ProblemTest::noneWhereNothingMoves,
+                ProblemTest::theLastNumbers,
+                ProblemTest::theOneLessIsX,
+                ProblemTest::librariesCountAmongPackages,
+                ProblemTest::librariesCountAmongMembers,
+                ProblemTest::allMovesOfThreePackages);
     }
 
     private static void dueProblem(NameMover x, String what, int want) {

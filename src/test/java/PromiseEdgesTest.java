@@ -8,37 +8,37 @@ public final class PromiseEdgesTest {
     }
 
     public static void main(String[] args) {
-        noClasses();
-        aNewClassWithoutMembers();
-        noSuperclass();
-        theNumberOfAMember();
-        itsOwnNameAgain();
-        anyClassMayBeMoved();
-        noLibraryClassMovesWithItsPackage();
-        theNameNotTheNewOne();
-        whateverTheNewNameWas();
-        howManyClasses();
-        theEmptyPackage();
-        justNotTooLong();
-        membersOfLibraryClasses();
-        whateverNewNameTheyHad();
-        howManyMembers();
-        howManyNamesChange();
-        perhapsNone();
-        howManyWereNot();
-        everyNameAtOnce();
-        howManyClassesThereAre();
-        nameOrNewName();
-        foundInTheNearest();
-        foundByNameNotNewName();
-        foundByAnyTexts();
-        writtenWithNames();
-        theBufferBecomesTheFile();
-        theFirstAndTheLastByte();
-        theLeastAndTheGreatestByte();
-        theBufferStays();
-        theNewOneItself();
-        CHECKS.end();
+        CHECKS.all(
+                PromiseEdgesTest::noClasses,
+                PromiseEdgesTest::aNewClassWithoutMembers,
+                PromiseEdgesTest::noSuperclass,
+                PromiseEdgesTest::theNumberOfAMember,
+                PromiseEdgesTest::itsOwnNameAgain,
+                PromiseEdgesTest::anyClassMayBeMoved,
+                PromiseEdgesTest::noLibraryClassMovesWithItsPackage,
+                PromiseEdgesTest::theNameNotTheNewOne,
+                PromiseEdgesTest::whateverTheNewNameWas,
+                PromiseEdgesTest::howManyClasses,
+                PromiseEdgesTest::theEmptyPackage,
+                PromiseEdgesTest::justNotTooLong,
+                PromiseEdgesTest::membersOfLibraryClasses,
+                PromiseEdgesTest::whateverNewNameTheyHad,
+                PromiseEdgesTest::howManyMembers,
+                PromiseEdgesTest::howManyNamesChange,
+                PromiseEdgesTest::perhapsNone,
+                PromiseEdgesTest::howManyWereNot,
+                PromiseEdgesTest::everyNameAtOnce,
+                PromiseEdgesTest::howManyClassesThereAre,
+                PromiseEdgesTest::nameOrNewName,
+                PromiseEdgesTest::foundInTheNearest,
+                PromiseEdgesTest::foundByNameNotNewName,
+                PromiseEdgesTest::foundByAnyTexts,
+                PromiseEdgesTest::writtenWithNames,
+                PromiseEdgesTest::theBufferBecomesTheFile,
+                PromiseEdgesTest::theFirstAndTheLastByte,
+                PromiseEdgesTest::theLeastAndTheGreatestByte,
+                PromiseEdgesTest::theBufferStays,
+                PromiseEdgesTest::theNewOneItself);
     }
 
     /** Class 1 under class 0, class 2 under class 1, each with method m and field f. */

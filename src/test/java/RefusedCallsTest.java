@@ -22,34 +22,34 @@ public final class RefusedCallsTest {
     }
 
     public static void main(String[] args) {
-        declareNoClassName();
-        declareNoSuperclass();
-        declareInAWrongState();
-        memberOfNoClass();
-        memberWithoutNameOrDescriptor();
-        memberInAWrongState();
-        moveClassOfNoClass();
-        moveClassToNoClassName();
-        movePackageOfNoPackage();
-        movePackageThatIsTooLong();
-        moveMemberOfNoMember();
-        moveMemberToNoIdentifier();
-        applyWithAProblem();
-        namesOfNothing();
-        findInNoClass();
-        findNothing();
-        writeNoClass();
-        byteAtNowhere();
-        pokeNowhere();
-        pokeNoByte();
-        loadInAWrongState();
-        loadNoFile();
-        loadNoName();
-        loadNoDescriptor();
-        loadTheSameMembers();
-        loadWhatIsNotThere();
-        loadWhatIsThere();
-        CHECKS.end();
+        CHECKS.all(
+                RefusedCallsTest::declareNoClassName,
+                RefusedCallsTest::declareNoSuperclass,
+                RefusedCallsTest::declareInAWrongState,
+                RefusedCallsTest::memberOfNoClass,
+                RefusedCallsTest::memberWithoutNameOrDescriptor,
+                RefusedCallsTest::memberInAWrongState,
+                RefusedCallsTest::moveClassOfNoClass,
+                RefusedCallsTest::moveClassToNoClassName,
+                RefusedCallsTest::movePackageOfNoPackage,
+                RefusedCallsTest::movePackageThatIsTooLong,
+                RefusedCallsTest::moveMemberOfNoMember,
+                RefusedCallsTest::moveMemberToNoIdentifier,
+                RefusedCallsTest::applyWithAProblem,
+                RefusedCallsTest::namesOfNothing,
+                RefusedCallsTest::findInNoClass,
+                RefusedCallsTest::findNothing,
+                RefusedCallsTest::writeNoClass,
+                RefusedCallsTest::byteAtNowhere,
+                RefusedCallsTest::pokeNowhere,
+                RefusedCallsTest::pokeNoByte,
+                RefusedCallsTest::loadInAWrongState,
+                RefusedCallsTest::loadNoFile,
+                RefusedCallsTest::loadNoName,
+                RefusedCallsTest::loadNoDescriptor,
+                RefusedCallsTest::loadTheSameMembers,
+                RefusedCallsTest::loadWhatIsNotThere,
+                RefusedCallsTest::loadWhatIsThere);
     }
 
     /** Three classes in a chain, the last one a library class, with a file in the buffer that can be loaded. */

@@ -11,26 +11,26 @@ public final class TermsTest {
     }
 
     public static void main(String[] args) {
-        fiveHundredAndTwelveCalls();
-        aText();
-        aZeroInsideAText();
-        anIdentifier();
-        aClassName();
-        aPackage();
-        atMostEightClasses();
-        aSuperclassHasALesserNumber();
-        ancestors();
-        atMostSixMembers();
-        theNumberOfAMember();
-        aDescriptorOfAtMostEightCharacters();
-        aType();
-        aDigitOfAClassThatIsThere();
-        fieldsAndMethods();
-        noTwoMembersAreTheSame();
-        aNewNameIsTheNameAtFirst();
-        moving();
-        theBufferIsEmptyAtFirst();
-        CHECKS.end();
+        CHECKS.all(
+                TermsTest::fiveHundredAndTwelveCalls,
+                TermsTest::aText,
+                TermsTest::aZeroInsideAText,
+                TermsTest::anIdentifier,
+                TermsTest::aClassName,
+                TermsTest::aPackage,
+                TermsTest::atMostEightClasses,
+                TermsTest::aSuperclassHasALesserNumber,
+                TermsTest::ancestors,
+                TermsTest::atMostSixMembers,
+                TermsTest::theNumberOfAMember,
+                TermsTest::aDescriptorOfAtMostEightCharacters,
+                TermsTest::aType,
+                TermsTest::aDigitOfAClassThatIsThere,
+                TermsTest::fieldsAndMethods,
+                TermsTest::noTwoMembersAreTheSame,
+                TermsTest::aNewNameIsTheNameAtFirst,
+                TermsTest::moving,
+                TermsTest::theBufferIsEmptyAtFirst);
     }
 
     private static NameMover withClasses(String... names) {
@@ -124,6 +124,7 @@ public final class TermsTest {
     private static void anIdentifier() {
         CHECKS.sentence("An IDENTIFIER is a text of 1 to 8 characters, a letter (a .. z, A .. Z) and then letters or digits");
         tryIdentifier("", false);
+        tryIdentifier("a/b", false);
         for (int length = 1; length <= 8; length++) {
             tryIdentifier("A2345678".substring(0, length), true);
             tryIdentifier("12345678".substring(0, length), false);
