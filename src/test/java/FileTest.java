@@ -33,7 +33,8 @@ public final class FileTest {
                 FileTest::aRefusedLoadLeavesNoFamily,
                 FileTest::aRefusedLoadLeavesNoSuperclass,
                 FileTest::theMostMembers,
-                FileTest::theEighthClass);
+                FileTest::theEighthClass,
+                FileTest::digitsInAFile);
     }
 
     private static void theSmallestFile() {
@@ -480,5 +481,25 @@ public final class FileTest {
             CHECKS.due("by its number", 8 * c, () -> x.find(number, t("f"), t("" + number)));
         }
         CHECKS.dueThrow("the ninth class", Checks.STATE, () -> x.load());
+    }
+
+    private static void digitsInAFile() {
+        CHECKS.sentence("Descriptors are written out here: instead of a digit there is L, that class's name, and a semicolon");
+        for (int count = 1; count < 8; count++) {
+            NameMover x = new NameMover();
+            for (int c = 0; c < count; c++) {
+                x.declare(t("A" + c), -1, false);
+            }
+            x.member(0, t("f"), t("I"), false);
+            x.write(0);
+            x.poke(3, 'B');
+            for (int digit = 0; digit < 10; digit++) {
+                x.poke(8, '0' + digit);
+                CHECKS.dueThrow(count + " classes, digit " + digit, Checks.ARGUMENT, () -> x.load());
+            }
+            x.poke(8, 'J');
+            int number = count;
+            CHECKS.due("no digit", number, () -> x.load());
+        }
     }
 }
