@@ -5,26 +5,27 @@ import java.lang.reflect.Modifier;
 import java.util.Arrays;
 import java.util.Set;
 import java.util.TreeSet;
+import java.util.stream.Collectors;
 
 /** The public face of the document: all of it, and no other member that is not private. */
 public final class FaceTest {
     private static final String[] FACE = {
-        "int declare(long, int, boolean)",
-        "int member(int, long, long, boolean)",
-        "void moveClass(int, long)",
-        "int movePackage(long, long)",
-        "int moveMember(int, int, long)",
+        "int declare(long, int, boolean) throws IllegalArgumentException, IndexOutOfBoundsException, IllegalStateException",
+        "int member(int, long, long, boolean) throws IndexOutOfBoundsException, IllegalArgumentException, IllegalStateException",
+        "void moveClass(int, long) throws IndexOutOfBoundsException, IllegalArgumentException",
+        "int movePackage(long, long) throws IllegalArgumentException",
+        "int moveMember(int, int, long) throws IndexOutOfBoundsException, IllegalArgumentException",
         "int problem()",
-        "int apply()",
+        "int apply() throws IllegalStateException",
         "int cancel()",
         "int classes()",
-        "long className(int, boolean)",
-        "long memberName(int, int, boolean)",
-        "int find(int, long, long)",
-        "int write(int)",
-        "int byteAt(int)",
-        "void poke(int, int)",
-        "int load()",
+        "long className(int, boolean) throws IndexOutOfBoundsException",
+        "long memberName(int, int, boolean) throws IndexOutOfBoundsException",
+        "int find(int, long, long) throws IndexOutOfBoundsException, NoSuchElementException",
+        "int write(int) throws IndexOutOfBoundsException",
+        "int byteAt(int) throws IndexOutOfBoundsException",
+        "void poke(int, int) throws IndexOutOfBoundsException, IllegalArgumentException",
+        "int load() throws IllegalStateException, IllegalArgumentException",
     };
 
     public static void main(String[] args) {
@@ -57,7 +58,12 @@ public final class FaceTest {
     }
 
     private static String told(Method method) {
-        String parameters = Arrays.toString(method.getParameterTypes());
-        return method.getReturnType() + " " + method.getName() + "(" + parameters.substring(1, parameters.length() - 1) + ")";
+        String thrown = names(method.getExceptionTypes());
+        return method.getReturnType() + " " + method.getName() + "(" + names(method.getParameterTypes()) + ")"
+                + (thrown.isEmpty() ? "" : " throws " + thrown);
+    }
+
+    private static String names(Class<?>[] types) {
+        return Arrays.stream(types).map(Class::getSimpleName).collect(Collectors.joining(", "));
     }
 }
