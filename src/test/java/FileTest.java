@@ -21,6 +21,7 @@ public final class FileTest {
                 FileTest::bytes,
                 FileTest::poking,
                 FileTest::loading,
+                FileTest::loadingUnderEachClass,
                 FileTest::loadingAClassThatNamesItself,
                 FileTest::loadingAfterNamesWereMoved,
                 FileTest::statesThatRefuseALoad,
@@ -32,6 +33,7 @@ public final class FileTest {
                 FileTest::aRefusedLoadLeavesNothing,
                 FileTest::aRefusedLoadLeavesNoFamily,
                 FileTest::aRefusedLoadLeavesNoSuperclass,
+                FileTest::aRefusedLoadLeavesNoMember,
                 FileTest::theMostMembers,
                 FileTest::theEighthClass,
                 FileTest::digitsInAFile);
@@ -249,6 +251,27 @@ public final class FileTest {
         CHECKS.due("it is a library class", 10300, () -> x.problem());
     }
 
+    private static void loadingUnderEachClass() {
+        CHECKS.sentence("that of its superclass's name");
+        for (int count = 2; count < 8; count++) {
+            for (int above = 0; above < count; above++) {
+                NameMover x = new NameMover();
+                for (int c = 0; c < count; c++) {
+                    x.declare(t("A" + c), c - 1, false);
+                    x.member(c, t("f" + c), t("I"), false);
+                }
+                x.write(1);
+                TestFiles.pokeAll(x, TestFiles.file("202 4 'B1' 'A" + above + "' 'g1' 'I' 1 2 0 1 3 4 0"));
+                int number = count;
+                int superclass = above;
+                CHECKS.due(count + " classes, under class " + above, count, () -> x.load());
+                CHECKS.due("its superclass's field", 8 * above, () -> x.find(number, t("f" + superclass), t("I")));
+                CHECKS.dueThrow("no field of the class under that", Checks.ELEMENT,
+                        () -> x.find(number, t("f" + (superclass + 1)), t("I")));
+            }
+        }
+    }
+
     private static void loadingAClassThatNamesItself() {
         CHECKS.sentence("other than the new one itself, in its descriptors");
         dueLoaded("itself in a field", "202 3 'C' 'f' 'LC;' 1 0 0 1 2 3 0");
@@ -437,6 +460,20 @@ public final class FileTest {
         FILES.dueBuffer(y, "now another one names it", "202 3 'D' 'f' 'LC;' 1 0 0 1 2 3 0");
         CHECKS.dueThrow("it is not there", Checks.ARGUMENT, () -> y.load());
         CHECKS.due("no class", 3, () -> y.classes());
+    }
+
+    private static void aRefusedLoadLeavesNoMember() {
+        CHECKS.sentence("A call that throws changes nothing: load, whose members are no problem for others");
+        NameMover x = FILES.withBuffer("202 4 'C' 'f' 'I' 'g' 1 0 0 2 2 3 0 4 3 2");
+        CHECKS.dueThrow("a class with a wrong byte", Checks.ARGUMENT, () -> x.load());
+        CHECKS.due("a class in its place", 3, () -> x.declare(t("C"), -1, false));
+        CHECKS.due("a class under that", 4, () -> x.declare(t("D"), 3, false));
+        CHECKS.due("its field", 0, () -> x.member(4, t("h"), t("I"), false));
+        for (String name : new String[] {"f", "g"}) {
+            CHECKS.due("it is alone", 1, () -> x.moveMember(4, 0, t(name)));
+            CHECKS.due("no problem with what is not there", 0, () -> x.problem());
+        }
+        CHECKS.due("apply", 1, () -> x.apply());
     }
 
     private static void theMostMembers() {

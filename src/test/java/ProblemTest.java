@@ -14,6 +14,7 @@ public final class ProblemTest {
                 ProblemTest::packagesThatPartOrMeet,
                 ProblemTest::membersThatBecomeOne,
                 ProblemTest::membersThatDoNot,
+                ProblemTest::membersOfOtherDescriptors,
                 ProblemTest::membersOfOneName,
                 ProblemTest::theLeastIsTold,
                 ProblemTest::theLeastOfOneKind,
@@ -163,6 +164,27 @@ public final class ProblemTest {
         CHECKS.due("fields of the same name part", 1, () -> x.apply());
         x.moveMember(1, 1, t("k"));
         dueProblem(x, "but they do not meet again", 50009);
+    }
+
+    private static void membersOfOtherDescriptors() {
+        CHECKS.sentence("5: .. with the same descriptor");
+        String[][] pairs = {{"I", "J"}, {"J", "I"}, {"I", "[I"}, {"()V", "()I"}, {"(I)V", "(J)V"}, {"0", "1"}, {"I", "()I"}};
+        for (String[] pair : pairs) {
+            for (int owner : new int[] {0, 1, 2}) {
+                NameMover x = new NameMover();
+                x.declare(t("A"), -1, false);
+                x.declare(t("B"), 0, false);
+                x.declare(t("C"), 1, false);
+                x.member(0, t("f"), t(pair[0]), false);
+                int k = x.member(owner, t("g"), t(pair[1]), false);
+                x.moveMember(0, 0, t("g"));
+                dueProblem(x, "one becomes the other", 0);
+                x.moveMember(owner, k, t("h"));
+                x.moveMember(0, 0, t("h"));
+                dueProblem(x, "both become a third", 0);
+                CHECKS.due("apply", 2, () -> x.apply());
+            }
+        }
     }
 
     private static void theLeastIsTold() {

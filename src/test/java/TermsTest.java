@@ -85,6 +85,13 @@ public final class TermsTest {
         CHECKS.dueThrow("a bit above A", Checks.ARGUMENT, () -> x.declare(0xc2L, -1, false));
         CHECKS.dueThrow("the least number", Checks.ARGUMENT, () -> x.declare(Long.MIN_VALUE, -1, false));
         CHECKS.dueThrow("the greatest number", Checks.ARGUMENT, () -> x.declare(Long.MAX_VALUE, -1, false));
+        for (long wrong : new long[] {-1L, Long.MIN_VALUE, Long.MAX_VALUE, 0xc837363534333241L}) {
+            CHECKS.dueThrow("a class's new name " + wrong, Checks.ARGUMENT, () -> done(() -> x.moveClass(0, wrong)));
+            CHECKS.dueThrow("a package to go from " + wrong, Checks.ARGUMENT, () -> x.movePackage(wrong, t("a")));
+            CHECKS.dueThrow("a package to go to " + wrong, Checks.ARGUMENT, () -> x.movePackage(t("a"), wrong));
+            CHECKS.dueThrow("a member's name " + wrong, Checks.ARGUMENT, () -> x.member(0, wrong, t("I"), false));
+            CHECKS.dueThrow("a descriptor " + wrong, Checks.ARGUMENT, () -> x.member(0, t("f"), wrong, false));
+        }
     }
 
     private static void aZeroInsideAText() {
@@ -325,6 +332,9 @@ public final class TermsTest {
             tryDescriptor("(" + ch + ")V", good);
             tryDescriptor("()" + ch, good || ch.equals("V"));
             tryDescriptor("(I[" + ch + ")J", good);
+            tryDescriptor(ch + "I", ch.equals("["));
+            tryDescriptor("[" + ch + "I", ch.equals("["));
+            tryDescriptor("()" + ch + "I", ch.equals("["));
         }
         tryDescriptor("[", false);
         tryDescriptor("[[[[[[[", false);
@@ -359,6 +369,14 @@ public final class TermsTest {
         CHECKS.sentence("A FIELD's descriptor is a type; a METHOD's is (, any number of types, ), and a type or V");
         for (int length = 1; length <= 5; length++) {
             forAllTexts("I0[()V", length, "", TermsTest::tryDescriptor);
+        }
+        for (int code = 1; code < 256; code++) {
+            String ch = String.valueOf((char) code);
+            tryDescriptor(ch + ")V", ch.equals("("));
+            tryDescriptor(ch + "I)V", ch.equals("("));
+            tryDescriptor("(" + ch + "V", ch.equals(")"));
+            tryDescriptor("(I" + ch + "I", ch.equals(")"));
+            tryDescriptor("()V" + ch, false);
         }
         forAllTexts("I[()", 7, "", text -> {
             tryDescriptor(text + "I");
